@@ -11,8 +11,9 @@ public final class WordFields {
     private static final int MINUS = 1 << 30;
     private static final int MAGNITUDE_MASK = MINUS - 1;
 
-    private static final int MINUS_ZERO_VALUE = Integer.MIN_VALUE;
-    private static final int NO_VALUE = Integer.MAX_VALUE;
+    // The least and the greatest int, written out: the library that LANGUAGE.md lists has no constants of Integer.
+    private static final int MINUS_ZERO_VALUE = -2147483648;
+    private static final int NO_VALUE = 2147483647;
     private static final int NOT_COMPARED = -2;
 
     private static final String LETTERS = " ABCDEFGHI~JKLMNOPQR[#STUVWXYZ0123456789.,()+-*/=$<>@;:'";
